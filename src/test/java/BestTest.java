@@ -1,0 +1,315 @@
+/** Promises 23 to 30: what would be best. */
+public final class BestTest {
+    private static final int NONE = PhaseLoads.NONE, BAD = PhaseLoads.BAD, NO = PhaseLoads.NO;
+    private static final int FAR = Integer.MAX_VALUE, LOW = Integer.MIN_VALUE;
+
+    public static void main(String[] args) {
+        best();
+        bestOfNoHouses();
+        bestWithFixed();
+        bestWithTies();
+        bestWithTiesToFixed();
+        bestWithFuse();
+        bestWithoutWeights();
+        bestIsRefused();
+        bestFollowsEachChange();
+        next();
+        nextIsRefused();
+        told();
+        digest();
+        Check.end();
+    }
+
+    private static void bestIs(String what, PhaseLoads x, int grief, int changes, int alike, int many) {
+        Check.due("23: " + what + ", grief", x.best(0), grief);
+        Check.due("23: " + what + ", changes", x.best(1), changes);
+        Check.due("23: " + what + ", alike", x.best(2), alike);
+        Check.due("27: " + what + ", many", x.many(), many);
+    }
+
+    private static void phasesOfBest(String what, PhaseLoads x, int... phases) {
+        for (int h = 0; h < phases.length; h++) {
+            Check.due("24: " + what + ", phase of " + h, x.phase(h), phases[h]);
+        }
+    }
+
+    /** by(0) .. by(9): the last one told holds for all that are more. */
+    private static void griefBy(String what, PhaseLoads x, int... griefs) {
+        for (int n = 0; n <= 9; n++) {
+            Check.due("25: " + what + ", by " + n, x.by(n), griefs[Math.min(n, griefs.length - 1)]);
+        }
+    }
+
+    private static void best() {
+        PhaseLoads x = ChangesTest.fiveSteady();
+        bestIs("five", x, 0, 2, 6, 243);
+        phasesOfBest("five", x, 0, 1, 1, 0, 2);
+        griefBy("five", x, 72, 18, 0);
+        int[][] fewest = {{0, 2}, {17, 2}, {18, 1}, {71, 1}, {72, 0}, {73, 0}, {FAR, 0}};
+        for (int[] f : fewest) {
+            Check.due("26: fewest for " + f[0], x.fewest(f[0]), f[1]);
+        }
+        ChangesTest.phasesAre("23: nothing is laid", x, 0, 0, 1, 1, 2);
+        Check.due("23: nothing to undo", x.told(6), 0);
+    }
+
+    private static void bestOfNoHouses() {
+        PhaseLoads x = new PhaseLoads();
+        bestIs("none", x, 0, 0, 1, 1);
+        griefBy("none", x, 0);
+        Check.due("26: none", x.fewest(0), 0);
+    }
+
+    private static void bestWithFixed() {
+        PhaseLoads x = ChangesTest.fiveSteady();
+        x.sets(1, 2, 1);
+        bestIs("one fixed", x, 0, 2, 2, 81);
+        phasesOfBest("one fixed", x, 1, 0, 0, 1, 2);
+        for (int h = 0; h < 5; h++) {
+            x.sets(h, 2, 1);
+        }
+        bestIs("all fixed", x, 72, 0, 1, 1);
+        phasesOfBest("all fixed", x, 0, 0, 1, 1, 2);
+        Check.due("26: all fixed", x.fewest(71), NONE);
+        Check.due("26: as it is", x.fewest(72), 0);
+    }
+
+    private static void bestWithTies() {
+        PhaseLoads x = ChangesTest.fiveSteady();
+        x.tie(3, 0);
+        bestIs("4 and 1 tied", x, 0, 2, 6, 81);
+        phasesOfBest("4 and 1 tied", x, 0, 1, 1, 0, 2);
+        griefBy("4 and 1 tied", x, NO, 72, 0);
+        Check.due("26: it has to keep", x.fewest(FAR), 1);
+        x.tie(1, 2);
+        bestIs("two pairs", x, 0, 2, 6, 27);
+        x.tie(2, 3);
+        bestIs("four tied", x, 450, 2, 6, 9);
+        phasesOfBest("four tied", x, 0, 0, 0, 0, 2);
+    }
+
+    private static void bestWithTiesToFixed() {
+        PhaseLoads x = ChangesTest.fiveSteady();
+        x.tie(0, 2);
+        x.sets(0, 2, 1);
+        Check.due("27: the lesser is fixed", x.many(), 27);
+        Check.due("24: the other follows", x.phase(2), 0);
+        x.sets(0, 2, 0);
+        x.sets(2, 2, 1);
+        Check.due("27: the greater is fixed", x.many(), 27);
+        Check.due("24: the lesser follows", x.phase(0), 1);
+        x.sets(0, 2, 1);
+        Check.due("27: both are fixed apart", x.many(), 0);
+        griefBy("both fixed apart", x, NO);
+        Check.due("26: both fixed apart", x.fewest(FAR), NONE);
+        Check.due("23: both fixed apart", x.best(0), NO);
+    }
+
+    private static void bestWithFuse() {
+        PhaseLoads x = ChangesTest.fiveSteady();
+        x.fuse(5);
+        bestIs("fuse of 5", x, 0, 2, 6, 6);
+        griefBy("fuse of 5", x, NO, NO, 0);
+        Check.due("26: fuse of 5", x.fewest(FAR), 2);
+        x.fuse(4);
+        Check.due("27: fuse of 4", x.many(), 0);
+        Check.due("26: fuse of 4", x.fewest(FAR), NONE);
+        x = new PhaseLoads();
+        x.house(5, 3, 0);
+        x.house(5, 3, 0);
+        x.fuse(5);
+        bestIs("two that give", x, 4 * 9, 1, 6, 6);
+        x.house(0, 2, 0);
+        x.fuse(4);
+        // both that give on one PHASE are safe just with the one that takes: less 3, less 3 and 2
+        bestIs("two that give and one", x, 2 * 4 + 4 * 7, 1, 12, 18 + 3);
+    }
+
+    private static void bestWithoutWeights() {
+        PhaseLoads x = ChangesTest.fiveSteady();
+        for (int t = 0; t < 6; t++) {
+            x.weight(t, 0);
+        }
+        bestIs("no weights", x, 0, 0, 243, 243);
+        phasesOfBest("no weights", x, 0, 0, 1, 1, 2);
+        x.weight(4, 1);
+        bestIs("one hour", x, 0, 2, 6, 243);
+        griefBy("one hour", x, 12, 3, 0);
+    }
+
+    private static void bestIsRefused() {
+        PhaseLoads none = new PhaseLoads();
+        Check.refused(none, "24: no house", y -> y.phase(0), BAD);
+        PhaseLoads x = ChangesTest.fiveSteady();
+        x.fuse(4);
+        x.change(0, 1);
+        for (int b : new int[] {-1, 3, FAR, LOW}) {
+            Check.refused(x, "23: bad ahead of no", y -> y.best(b), BAD);
+        }
+        for (int b : new int[] {-1, 5, FAR, LOW}) {
+            Check.refused(x, "24: bad ahead of no", y -> y.phase(b), BAD);
+        }
+        for (int b : new int[] {-1, 10, FAR, LOW}) {
+            Check.refused(x, "25: bad ahead of no", y -> y.by(b), BAD);
+        }
+        for (int b : new int[] {-1, LOW}) {
+            Check.refused(x, "26: bad", y -> y.fewest(b), BAD);
+        }
+        for (int what = 0; what < 3; what++) {
+            int w = what;
+            Check.refused(x, "23: none", y -> y.best(w), NO);
+        }
+        Check.refused(x, "24: none", y -> y.phase(0), NO);
+        Check.refused(x, "25: none", y -> y.by(9), NO);
+    }
+
+    /** What was found ahead of a change may not be told behind it. */
+    private static void bestFollowsEachChange() {
+        PhaseLoads x = ChangesTest.fiveSteady();
+        Check.due("23: at first", x.best(1), 2);
+        x.change(1, 1);
+        Check.due("23: behind change", x.best(1), 1);
+        x.swap(2, 4);
+        Check.due("23: behind swap", x.best(1), 2);
+        x.undo();
+        Check.due("23: behind undo", x.best(1), 1);
+        x.lay();
+        Check.due("23: behind lay", x.best(1), 0);
+        x.undo();
+        x.undo();
+        Check.due("23: behind all undone", x.best(1), 2);
+        x.step();
+        Check.due("23: behind step", x.best(1), 0);
+        x.undo();
+        Check.due("25: behind undo", x.by(0), 72);
+        x.down();
+        Check.due("25: behind down", x.by(0), 0);
+        x.undo();
+        x.sets(4, 1, 2);
+        Check.due("23: behind size", x.best(0), 0);
+        x.sets(4, 0, 4);
+        // a STOVE of 2 with 2, beside 4 and 3, 1: 4, 4, 2 in four HOURS, 4, 4, 8 in two
+        Check.due("23: behind sort", x.best(0), 4 * 4 + 2 * 16);
+        x.weight(0, 3);
+        Check.due("23: behind weight", x.best(0), 6 * 4 + 2 * 16);
+        x.fuse(9);
+        Check.due("27: behind fuse", x.many(), manyByFuse(x, 9));
+        x.tie(0, 1);
+        int tied = x.many();
+        x.loosens();
+        Check.holds("27: behind loosens", x.many() > tied);
+        x.house(0, 1, 0);
+        Check.holds("27: behind house", x.many() > 243);
+        x.fuse(400);
+        x.draw(1, 2);
+        Check.due("27: behind draw", x.many(), 9);
+        x.anew();
+        Check.due("27: behind anew", x.many(), 1);
+    }
+
+    /** Laid one by one by change: how many of the five HOUSES' layings are safe. */
+    private static int manyByFuse(PhaseLoads x, int fuse) {
+        PhaseLoads y = new PhaseLoads();
+        for (int h = 0; h < 5; h++) {
+            y.house(x.of(h, 0), x.of(h, 1), 0);
+        }
+        int safe = 0;
+        for (int laying = 0; laying < 243; laying++) {
+            int rest = laying;
+            for (int h = 0; h < 5; h++) {
+                y.change(h, rest % 3);
+                rest /= 3;
+            }
+            safe += Math.abs(y.worst(1)) <= fuse ? 1 : 0;
+        }
+        return safe;
+    }
+
+    private static void nextIs(String what, PhaseLoads x, int... answers) {
+        for (int i = 0; i < 4; i++) {
+            Check.due("28: " + what + ", next " + i, x.next(i), answers[i]);
+        }
+    }
+
+    private static void next() {
+        PhaseLoads x = ChangesTest.fiveSteady();
+        nextIs("swap", x, 0, 1, 0, 2);
+        x.sets(0, 2, 1);
+        nextIs("one is fixed", x, 0, 1, 1, 3);
+        x.tie(3, 4);
+        nextIs("two are tied", x, 18, 0, 1, 1);
+        ChangesTest.phasesAre("28: nothing is done", x, 0, 0, 1, 1, 2);
+        Check.due("28: nothing to undo", x.told(6), 0);
+        x = new PhaseLoads();
+        x.house(0, 1, 1);
+        nextIs("one that lessens nothing", x, 6, 0, 0, 0);
+        x.house(0, 1, 0);
+        nextIs("like ones: a change, the least house and phase", x, 6, 0, 0, 2);
+        x.house(0, 1, 2);
+        nextIs("swaps of all", x, 0, 1, 0, 1);
+        x.sets(0, 2, 1);
+        nextIs("swaps of the free", x, 0, 1, 1, 2);
+    }
+
+    private static void nextIsRefused() {
+        PhaseLoads x = new PhaseLoads();
+        Check.refused(x, "28: no houses", y -> y.next(0), NO);
+        x.house(0, 2, 0);
+        x.sets(0, 2, 1);
+        for (int what = 0; what < 4; what++) {
+            int w = what;
+            Check.refused(x, "28: fixed", y -> y.next(w), NO);
+        }
+        x.sets(0, 2, 0);
+        x.fuse(1);
+        Check.refused(x, "28: none is safe then", y -> y.next(3), NO);
+        for (int b : new int[] {-1, 4, FAR, LOW}) {
+            Check.refused(x, "28: bad ahead of no", y -> y.next(b), BAD);
+        }
+    }
+
+    private static void told() {
+        PhaseLoads x = ChangesTest.fiveSteady();
+        x.sets(0, 2, 1);
+        x.sets(4, 2, 1);
+        x.tie(1, 2);
+        x.fuse(77);
+        x.change(1, 0);
+        x.change(2, 0);
+        x.change(0, 0);
+        x.change(9, 0);
+        x.told(8);
+        x.told(-1);
+        int[] told = {3, 1, 0, 5, 1, 77, 2, 17};
+        for (int what = 0; what < 8; what++) {
+            Check.due("29: told " + what, x.told(what), told[what]);
+        }
+        for (int b : new int[] {-1, 8, FAR, LOW}) {
+            Check.refused(x, "29: bad told", y -> y.told(b), BAD);
+        }
+    }
+
+    private static void digest() {
+        PhaseLoads x = ChangesTest.fiveSteady();
+        x.weight(3, 8);
+        x.fuse(200);
+        x.sets(3, 2, 1);
+        x.tie(4, 2);
+        x.tie(0, 1);
+        x.swap(0, 3);
+        x.change(0, 1);
+        x.fuse(0);
+        // LOADS 3, 7, 5
+        int[] all = {1, 1, 0, 5, 2, 200, 1, 8,
+            0, 4, 1, 0, 3, 0, 0, 2, 1, 0, 1, 1, 0, 5, 2,
+            1, 1, 1, 8, 1, 1,
+            4, 2, 0, 1,
+            12 * 13};
+        long digest = 2011;
+        for (int v : all) {
+            digest = 31 * digest + v;
+        }
+        Check.due("30: digest", x.digest(), digest);
+        Check.due("30: digest again", x.digest(), digest);
+    }
+}
