@@ -423,13 +423,13 @@ public final class PhaseLoads {
 
     /** A laying is packed into one number, two bits a HOUSE, so that keeping it makes no object. */
     private static int phaseIn(int laying, int h) {
-        return laying >>> 2 * h & 3;
+        return (laying >>> (2 * h)) & 3;
     }
 
     private static int pack(int[] phases, int houses) {
         int laying = 0;
         for (int h = 0; h < houses; h++) {
-            laying |= phases[h] << 2 * h;
+            laying |= phases[h] << (2 * h);
         }
         return laying;
     }
@@ -628,6 +628,7 @@ public final class PhaseLoads {
         private final int[] laid = new int[MOST_HOUSES];
         private final int[] products = new int[MOST_HOUSES * MOST_HOUSES];
         private final int[] met = new int[MOST_HOUSES * PHASES];
+        /** LOADS of the HOUSES placed so far, in the tight HOURS alone; all 0 when none is placed. */
         private final int[] loads = new int[PHASES * HOURS];
         private final int[] tightHours = new int[HOURS];
         private int tight;
@@ -676,7 +677,6 @@ public final class PhaseLoads {
             }
             found = true;
             Arrays.fill(least, NONE);
-            Arrays.fill(loads, 0);
             total = 0;
             alike = 0;
             leastOfAll = NONE;

@@ -123,6 +123,12 @@ public final class BestTest {
         x.fuse(4);
         // both that give on one PHASE are safe just with the one that takes: less 3, less 3 and 2
         bestIs("two that give and one", x, 2 * 4 + 4 * 7, 1, 12, 18 + 3);
+        x = new PhaseLoads();
+        x.house(4, 1, 0);
+        x.house(4, 1, 0);
+        x.house(5, 2, 0);
+        x.fuse(5);
+        Check.due("27: two stoves together are too much in hour 1, with a sun too", x.many(), 18);
     }
 
     private static void bestWithoutWeights() {
@@ -293,18 +299,19 @@ public final class BestTest {
         PhaseLoads x = ChangesTest.fiveSteady();
         x.weight(3, 8);
         x.fuse(200);
+        x.sets(4, 0, 2);
         x.sets(3, 2, 1);
         x.tie(4, 2);
         x.tie(0, 1);
         x.swap(0, 3);
         x.change(0, 1);
         x.fuse(0);
-        // LOADS 3, 7, 5
+        // LOADS 3, 7, 5, but 3, 7, 0 in HOURS 2, 3
         int[] all = {1, 1, 0, 5, 2, 200, 1, 8,
-            0, 4, 1, 0, 3, 0, 0, 2, 1, 0, 1, 1, 0, 5, 2,
+            0, 4, 1, 0, 3, 0, 0, 2, 1, 0, 1, 1, 2, 5, 2,
             1, 1, 1, 8, 1, 1,
             4, 2, 0, 1,
-            12 * 13};
+            12 * 4 + 37 * 9};
         long digest = 2011;
         for (int v : all) {
             digest = 31 * digest + v;

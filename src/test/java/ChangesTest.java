@@ -126,6 +126,12 @@ public final class ChangesTest {
         Check.due("20: all tied or fixed", x.down(), 0);
         Check.due("20: no D", x.told(6), 0);
         x = fiveSteady();
+        x.sets(2, 2, 1);
+        x.sets(3, 2, 1);
+        x.sets(4, 2, 1);
+        x.tie(0, 1);
+        Check.refused(x, "19: tied to the first house", y -> y.step(), NO);
+        x = fiveSteady();
         x.fuse(4);
         Check.refused(x, "19: none is safe then", y -> y.step(), NO);
     }
@@ -192,6 +198,15 @@ public final class ChangesTest {
         x.tie(0, 1);
         Check.due("21: tied ones", x.lay(), 2);
         phasesAre("21: tied ones together", x, 0, 0, 1, 2, 0);
+        x = new PhaseLoads();
+        for (int h = 0; h < 9; h++) {
+            x.house(0, 7, 0);
+        }
+        Check.due("21: six of nine", x.lay(), 6);
+        phasesAre("21: nine", x, 0, 0, 0, 1, 1, 1, 2, 2, 2);
+        Check.due("21: nine, grief", x.grief(), 0);
+        Check.due("21: nine, undone", x.undo(), 0);
+        phasesAre("21: nine, undone", x, 0, 0, 0, 0, 0, 0, 0, 0, 0);
     }
 
     private static void layIsRefused() {
