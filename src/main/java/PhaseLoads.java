@@ -626,6 +626,7 @@ public final class PhaseLoads {
         int alike;
         private final Street street;
         private final int[] laid = new int[MOST_HOUSES];
+        private final int[] takings = new int[MOST_HOUSES * HOURS];
         private final int[] products = new int[MOST_HOUSES * MOST_HOUSES];
         private final int[] met = new int[MOST_HOUSES * PHASES];
         /** LOADS of the HOUSES placed so far, in the tight HOURS alone; all 0 when none is placed. */
@@ -680,9 +681,18 @@ public final class PhaseLoads {
             total = 0;
             alike = 0;
             leastOfAll = NONE;
+            readTakings();
             findTightHours();
             multiplyTakings();
             place(0, griefApart(), 0);
+        }
+
+        private void readTakings() {
+            for (int h = 0; h < street.houses; h++) {
+                for (int t = 0; t < HOURS; t++) {
+                    takings[h * HOURS + t] = street.takenBy(h, t);
+                }
+            }
         }
 
         /** Only an HOUR in which all HOUSES together could blow the FUSE needs its LOADS looked at. */
@@ -692,8 +702,8 @@ public final class PhaseLoads {
                 int taken = 0;
                 int given = 0;
                 for (int h = 0; h < street.houses; h++) {
-                    taken += Math.max(street.takenBy(h, t), 0);
-                    given += Math.max(-street.takenBy(h, t), 0);
+                    taken += Math.max(takings[h * HOURS + t], 0);
+                    given += Math.max(-takings[h * HOURS + t], 0);
                 }
                 if (Math.max(taken, given) > street.fuse) {
                     tightHours[tight] = t;
@@ -713,7 +723,7 @@ public final class PhaseLoads {
         private int product(int h, int o) {
             int sum = 0;
             for (int t = 0; t < HOURS; t++) {
-                sum += street.weights[t] * street.takenBy(h, t) * street.takenBy(o, t);
+                sum += street.weights[t] * takings[h * HOURS + t] * takings[o * HOURS + t];
             }
             return sum;
         }
@@ -771,7 +781,8 @@ public final class PhaseLoads {
 
         private void addLoads(int h, int phase, int times) {
             for (int i = 0; i < tight; i++) {
-                loads[phase * HOURS + tightHours[i]] += times * street.takenBy(h, tightHours[i]);
+                int t = tightHours[i];
+                loads[phase * HOURS + t] += times * takings[h * HOURS + t];
             }
         }
 
