@@ -17,31 +17,33 @@ public final class BestTest {
         nextIsRefused();
         told();
         digest();
+        digestOfPairs();
+        digestOfTheMost();
         Check.end();
     }
 
-    private static void bestIs(String what, PhaseLoads x, int grief, int changes, int alike, int many) {
+    private static void bestIs(String what, Run x, int grief, int changes, int alike, int many) {
         Check.due("23: " + what + ", grief", x.best(0), grief);
         Check.due("23: " + what + ", changes", x.best(1), changes);
         Check.due("23: " + what + ", alike", x.best(2), alike);
         Check.due("27: " + what + ", many", x.many(), many);
     }
 
-    private static void phasesOfBest(String what, PhaseLoads x, int... phases) {
+    private static void phasesOfBest(String what, Run x, int... phases) {
         for (int h = 0; h < phases.length; h++) {
             Check.due("24: " + what + ", phase of " + h, x.phase(h), phases[h]);
         }
     }
 
     /** by(0) .. by(9): the last one told holds for all that are more. */
-    private static void griefBy(String what, PhaseLoads x, int... griefs) {
+    private static void griefBy(String what, Run x, int... griefs) {
         for (int n = 0; n <= 9; n++) {
             Check.due("25: " + what + ", by " + n, x.by(n), griefs[Math.min(n, griefs.length - 1)]);
         }
     }
 
     private static void best() {
-        PhaseLoads x = ChangesTest.fiveSteady();
+        Run x = ChangesTest.fiveSteady();
         bestIs("five", x, 0, 2, 6, 243);
         phasesOfBest("five", x, 0, 1, 1, 0, 2);
         griefBy("five", x, 72, 18, 0);
@@ -54,14 +56,14 @@ public final class BestTest {
     }
 
     private static void bestOfNoHouses() {
-        PhaseLoads x = new PhaseLoads();
+        Run x = new Run();
         bestIs("none", x, 0, 0, 1, 1);
         griefBy("none", x, 0);
         Check.due("26: none", x.fewest(0), 0);
     }
 
     private static void bestWithFixed() {
-        PhaseLoads x = ChangesTest.fiveSteady();
+        Run x = ChangesTest.fiveSteady();
         x.sets(1, 2, 1);
         bestIs("one fixed", x, 0, 2, 2, 81);
         phasesOfBest("one fixed", x, 1, 0, 0, 1, 2);
@@ -75,7 +77,7 @@ public final class BestTest {
     }
 
     private static void bestWithTies() {
-        PhaseLoads x = ChangesTest.fiveSteady();
+        Run x = ChangesTest.fiveSteady();
         x.tie(3, 0);
         bestIs("4 and 1 tied", x, 0, 2, 6, 81);
         phasesOfBest("4 and 1 tied", x, 0, 1, 1, 0, 2);
@@ -89,7 +91,7 @@ public final class BestTest {
     }
 
     private static void bestWithTiesToFixed() {
-        PhaseLoads x = ChangesTest.fiveSteady();
+        Run x = ChangesTest.fiveSteady();
         x.tie(0, 2);
         x.sets(0, 2, 1);
         Check.due("27: the lesser is fixed", x.many(), 27);
@@ -106,7 +108,7 @@ public final class BestTest {
     }
 
     private static void bestWithFuse() {
-        PhaseLoads x = ChangesTest.fiveSteady();
+        Run x = ChangesTest.fiveSteady();
         x.fuse(5);
         bestIs("fuse of 5", x, 0, 2, 6, 6);
         griefBy("fuse of 5", x, NO, NO, 0);
@@ -114,7 +116,7 @@ public final class BestTest {
         x.fuse(4);
         Check.due("27: fuse of 4", x.many(), 0);
         Check.due("26: fuse of 4", x.fewest(FAR), NONE);
-        x = new PhaseLoads();
+        x = new Run();
         x.house(5, 3, 0);
         x.house(5, 3, 0);
         x.fuse(5);
@@ -123,7 +125,7 @@ public final class BestTest {
         x.fuse(4);
         // both that give on one PHASE are safe just with the one that takes: less 3, less 3 and 2
         bestIs("two that give and one", x, 2 * 4 + 4 * 7, 1, 12, 18 + 3);
-        x = new PhaseLoads();
+        x = new Run();
         x.house(4, 1, 0);
         x.house(4, 1, 0);
         x.house(5, 2, 0);
@@ -132,7 +134,7 @@ public final class BestTest {
     }
 
     private static void bestWithoutWeights() {
-        PhaseLoads x = ChangesTest.fiveSteady();
+        Run x = ChangesTest.fiveSteady();
         for (int t = 0; t < 6; t++) {
             x.weight(t, 0);
         }
@@ -144,9 +146,9 @@ public final class BestTest {
     }
 
     private static void bestIsRefused() {
-        PhaseLoads none = new PhaseLoads();
+        Run none = new Run();
         Check.refused(none, "24: no house", y -> y.phase(0), BAD);
-        PhaseLoads x = ChangesTest.fiveSteady();
+        Run x = ChangesTest.fiveSteady();
         x.fuse(4);
         x.change(0, 1);
         for (int b : new int[] {-1, 3, FAR, LOW}) {
@@ -171,7 +173,7 @@ public final class BestTest {
 
     /** What was found ahead of a change may not be told behind it. */
     private static void bestFollowsEachChange() {
-        PhaseLoads x = ChangesTest.fiveSteady();
+        Run x = ChangesTest.fiveSteady();
         Check.due("23: at first", x.best(1), 2);
         x.change(1, 1);
         Check.due("23: behind change", x.best(1), 1);
@@ -213,17 +215,20 @@ public final class BestTest {
         Check.due("27: behind anew", x.many(), 1);
     }
 
-    /** Laid one by one by change: how many of the five HOUSES' layings are safe. */
-    private static int manyByFuse(PhaseLoads x, int fuse) {
-        PhaseLoads y = new PhaseLoads();
+    /** Laid one by one: how many of the five HOUSES' layings are safe. */
+    private static int manyByFuse(Run x, int fuse) {
+        int[] sorts = new int[5];
+        int[] sizes = new int[5];
         for (int h = 0; h < 5; h++) {
-            y.house(x.of(h, 0), x.of(h, 1), 0);
+            sorts[h] = x.of(h, 0);
+            sizes[h] = x.of(h, 1);
         }
         int safe = 0;
         for (int laying = 0; laying < 243; laying++) {
+            Run y = new Run();
             int rest = laying;
             for (int h = 0; h < 5; h++) {
-                y.change(h, rest % 3);
+                y.house(sorts[h], sizes[h], rest % 3);
                 rest /= 3;
             }
             safe += Math.abs(y.worst(1)) <= fuse ? 1 : 0;
@@ -231,14 +236,14 @@ public final class BestTest {
         return safe;
     }
 
-    private static void nextIs(String what, PhaseLoads x, int... answers) {
+    private static void nextIs(String what, Run x, int... answers) {
         for (int i = 0; i < 4; i++) {
             Check.due("28: " + what + ", next " + i, x.next(i), answers[i]);
         }
     }
 
     private static void next() {
-        PhaseLoads x = ChangesTest.fiveSteady();
+        Run x = ChangesTest.fiveSteady();
         nextIs("swap", x, 0, 1, 0, 2);
         x.sets(0, 2, 1);
         nextIs("one is fixed", x, 0, 1, 1, 3);
@@ -246,7 +251,7 @@ public final class BestTest {
         nextIs("two are tied", x, 18, 0, 1, 1);
         ChangesTest.phasesAre("28: nothing is done", x, 0, 0, 1, 1, 2);
         Check.due("28: nothing to undo", x.told(6), 0);
-        x = new PhaseLoads();
+        x = new Run();
         x.house(0, 1, 1);
         nextIs("one that lessens nothing", x, 6, 0, 0, 0);
         x.house(0, 1, 0);
@@ -258,7 +263,7 @@ public final class BestTest {
     }
 
     private static void nextIsRefused() {
-        PhaseLoads x = new PhaseLoads();
+        Run x = new Run();
         Check.refused(x, "28: no houses", y -> y.next(0), NO);
         x.house(0, 2, 0);
         x.sets(0, 2, 1);
@@ -275,7 +280,7 @@ public final class BestTest {
     }
 
     private static void told() {
-        PhaseLoads x = ChangesTest.fiveSteady();
+        Run x = ChangesTest.fiveSteady();
         x.sets(0, 2, 1);
         x.sets(4, 2, 1);
         x.tie(1, 2);
@@ -296,7 +301,7 @@ public final class BestTest {
     }
 
     private static void digest() {
-        PhaseLoads x = ChangesTest.fiveSteady();
+        Run x = ChangesTest.fiveSteady();
         x.weight(3, 8);
         x.fuse(200);
         x.sets(4, 0, 2);
@@ -312,11 +317,74 @@ public final class BestTest {
             1, 1, 1, 8, 1, 1,
             4, 2, 0, 1,
             12 * 4 + 37 * 9};
+        Check.due("30: digest", x.digest(), digestOver(all));
+        Check.due("30: digest again", x.digest(), digestOver(all));
+    }
+
+    private static long digestOver(int... all) {
         long digest = 2011;
         for (int v : all) {
             digest = 31 * digest + v;
         }
-        Check.due("30: digest", x.digest(), digest);
-        Check.due("30: digest again", x.digest(), digest);
+        return digest;
+    }
+
+    /** 'pairs TIED as they were told': neither put in order nor as they are TIED by others. */
+    private static void digestOfPairs() {
+        int[][][] told = {{{0, 1}, {1, 2}}, {{1, 2}, {0, 1}}, {{1, 0}, {2, 1}}, {{2, 0}, {0, 1}}};
+        for (int[][] pairs : told) {
+            Run x = new Run();
+            for (int h = 0; h < 3; h++) {
+                x.house(0, 1, h);
+            }
+            x.tie(pairs[0][0], pairs[0][1]);
+            x.tie(pairs[1][0], pairs[1][1]);
+            x.tie(1, 2);
+            Check.due("30: pairs", x.digest(), digestOver(0, 1, 0, 3, 2, 400, 0, 0,
+                0, 1, 0, 0, 1, 1, 0, 1, 2, 1, 1, 1, 1, 1, 1,
+                pairs[0][0], pairs[0][1], pairs[1][0], pairs[1][1], 0));
+            x.loosens();
+            Check.due("30: no pairs", x.digest(), digestOver(0, 1, 0, 3, 0, 400, 0, 0,
+                0, 1, 0, 0, 1, 1, 0, 1, 2, 1, 1, 1, 1, 1, 1, 0));
+        }
+    }
+
+    /** Nine HOUSES, six pairs, eight to undo, all FIXED but one; as a long it goes round. */
+    private static void digestOfTheMost() {
+        Run x = new Run();
+        for (int h = 0; h < 9; h++) {
+            x.house(4, 20, 2);
+        }
+        for (int t = 0; t < 6; t++) {
+            x.weight(t, 9);
+        }
+        for (int h = 0; h < 6; h++) {
+            x.tie(h + 1, h);
+        }
+        for (int h = 0; h < 8; h++) {
+            x.sets(h, 2, 1);
+        }
+        for (int i = 0; i < 12; i++) {
+            x.change(8, 2);
+        }
+        x.house(4, 20, 2);
+        int[] all = new int[8 + 27 + 6 + 12 + 1];
+        int[] told = {0, 0, 1, 9, 6, 400, 8, 255};
+        System.arraycopy(told, 0, all, 0, 8);
+        int n = 8;
+        for (int h = 0; h < 9; h++) {
+            all[n++] = 4;
+            all[n++] = 20;
+            all[n++] = 2;
+        }
+        for (int t = 0; t < 6; t++) {
+            all[n++] = 9;
+        }
+        for (int h = 0; h < 6; h++) {
+            all[n++] = h + 1;
+            all[n++] = h;
+        }
+        all[n] = 5248800;
+        Check.due("30: the most", x.digest(), digestOver(all));
     }
 }

@@ -19,8 +19,8 @@ public final class ChangesTest {
     }
 
     /** STEADY ones of 4, 3 on PHASE 0, 2, 1 on PHASE 1, 5 on PHASE 2: LOADS 7, 3, 5, GRIEF 6 times 12. */
-    static PhaseLoads fiveSteady() {
-        PhaseLoads x = new PhaseLoads();
+    static Run fiveSteady() {
+        Run x = new Run();
         x.house(0, 4, 0);
         x.house(0, 3, 0);
         x.house(0, 2, 1);
@@ -29,7 +29,7 @@ public final class ChangesTest {
         return x;
     }
 
-    static void phasesAre(String what, PhaseLoads x, int... phases) {
+    static void phasesAre(String what, Run x, int... phases) {
         Check.due(what + ", houses", x.told(3), phases.length);
         for (int h = 0; h < phases.length; h++) {
             Check.due(what + ", phase of " + h, x.of(h, 2), phases[h]);
@@ -37,7 +37,7 @@ public final class ChangesTest {
     }
 
     private static void change() {
-        PhaseLoads x = new PhaseLoads();
+        Run x = new Run();
         Check.refused(x, "17: no house", y -> y.change(0, 0), BAD);
         x = fiveSteady();
         x.tie(0, 1);
@@ -59,7 +59,7 @@ public final class ChangesTest {
     }
 
     private static void swap() {
-        PhaseLoads x = new PhaseLoads();
+        Run x = new Run();
         Check.refused(x, "18: no houses", y -> y.swap(0, 1), BAD);
         x = fiveSteady();
         x.tie(0, 1);
@@ -82,7 +82,7 @@ public final class ChangesTest {
     }
 
     private static void stepByChange() {
-        PhaseLoads x = new PhaseLoads();
+        Run x = new Run();
         Check.refused(x, "19: no houses", y -> y.step(), NO);
         x.house(0, 1, 0);
         x.house(0, 1, 0);
@@ -98,14 +98,14 @@ public final class ChangesTest {
     }
 
     private static void stepBySwap() {
-        PhaseLoads x = fiveSteady();
+        Run x = fiveSteady();
         Check.due("19: swap", x.step(), 0);
         phasesAre("19: the lesser house's", x, 1, 0, 0, 1, 2);
         x = fiveSteady();
         x.sets(0, 2, 1);
         Check.due("19: swap, one is fixed", x.step(), 0);
         phasesAre("19: one is fixed", x, 0, 1, 1, 0, 2);
-        x = new PhaseLoads();
+        x = new Run();
         x.house(0, 2, 0);
         x.house(0, 2, 0);
         x.house(0, 2, 1);
@@ -114,7 +114,7 @@ public final class ChangesTest {
     }
 
     private static void stepsThatMayNotBe() {
-        PhaseLoads x = fiveSteady();
+        Run x = fiveSteady();
         x.tie(0, 4);
         Check.due("19: tied ones stay", x.step(), 0);
         phasesAre("19: the untied ones", x, 0, 1, 1, 0, 2);
@@ -137,11 +137,11 @@ public final class ChangesTest {
     }
 
     private static void stepOutOfUnsafe() {
-        PhaseLoads x = fiveSteady();
+        Run x = fiveSteady();
         x.fuse(6);
         Check.due("19: unsafe at first", x.good(0), 0);
         Check.due("19: into a safe one", x.step(), 0);
-        x = new PhaseLoads();
+        x = new Run();
         x.house(5, 9, 0);
         x.house(5, 9, 0);
         x.house(0, 1, 1);
@@ -153,7 +153,7 @@ public final class ChangesTest {
     }
 
     private static void down() {
-        PhaseLoads x = new PhaseLoads();
+        Run x = new Run();
         Check.due("20: no houses", x.down(), 0);
         for (int h = 0; h < 3; h++) {
             x.house(0, 1, 0);
@@ -166,7 +166,7 @@ public final class ChangesTest {
         Check.due("20: never refused", x.told(1), 0);
         Check.due("20: undone at once", x.undo(), 0);
         phasesAre("20: undone", x, 0, 0, 0);
-        PhaseLoads y = new PhaseLoads();
+        Run y = new Run();
         for (int seed = 0; seed < 40; seed++) {
             x.draw(seed, 9);
             y.draw(seed, 9);
@@ -180,7 +180,7 @@ public final class ChangesTest {
     }
 
     private static void lay() {
-        PhaseLoads x = new PhaseLoads();
+        Run x = new Run();
         Check.due("21: no houses", x.lay(), 0);
         Check.due("21: a D", x.told(6), 1);
         x = fiveSteady();
@@ -198,7 +198,7 @@ public final class ChangesTest {
         x.tie(0, 1);
         Check.due("21: tied ones", x.lay(), 2);
         phasesAre("21: tied ones together", x, 0, 0, 1, 2, 0);
-        x = new PhaseLoads();
+        x = new Run();
         for (int h = 0; h < 9; h++) {
             x.house(0, 7, 0);
         }
@@ -210,7 +210,7 @@ public final class ChangesTest {
     }
 
     private static void layIsRefused() {
-        PhaseLoads x = fiveSteady();
+        Run x = fiveSteady();
         x.fuse(4);
         x.change(0, 1);
         Check.refused(x, "21: none is safe", y -> y.lay(), NO);
@@ -222,7 +222,7 @@ public final class ChangesTest {
     }
 
     private static void undo() {
-        PhaseLoads x = new PhaseLoads();
+        Run x = new Run();
         Check.refused(x, "22: none", y -> y.undo(), NO);
         x.house(0, 1, 0);
         x.house(0, 2, 1);
@@ -243,7 +243,7 @@ public final class ChangesTest {
     }
 
     private static void undoOfEachKind() {
-        PhaseLoads x = fiveSteady();
+        Run x = fiveSteady();
         x.change(4, 0);
         x.swap(0, 2);
         x.step();

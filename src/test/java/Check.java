@@ -1,5 +1,9 @@
+import java.util.Map;
+
 /** Counts answers, prints each that is not the one that is due, and ends the test program with 1 if there was one. */
 final class Check {
+    private static final int MOST_PRINTED = 60;
+
     private static int right;
     private static int wrong;
 
@@ -9,8 +13,10 @@ final class Check {
     static void due(String what, long got, long want) {
         if (got == want) {
             right++;
-        } else {
-            wrong++;
+            return;
+        }
+        wrong++;
+        if (wrong <= MOST_PRINTED) {
             System.out.println(what + ": answered " + got + ", due is " + want);
         }
     }
@@ -19,41 +25,54 @@ final class Check {
         due(what, held ? 1 : 0, 1);
     }
 
-    /** What is refused changes nothing but how often: the whole digest is asked ahead of it and behind it. */
-    static void refused(PhaseLoads x, String what, Call call, int why) {
-        int counter = why == PhaseLoads.BAD ? 0 : why == PhaseLoads.NO ? 1 : 2;
-        int often = x.told(counter);
-        int[] ahead = state(x);
-        due(what, call.on(x), why);
-        due(what + ", how often", x.told(counter), often + 1);
-        int[] behind = state(x);
-        for (int i = 0; i < ahead.length; i++) {
-            due(what + ", state " + i + " behind it", behind[i], i == counter ? ahead[i] + 1 : ahead[i]);
+    /** What is refused is counted once, under why, and all else that can be asked answers as without the call. */
+    static void refused(Run x, String what, Run.Call call, int why) {
+        Run without = x.twin();
+        Run with = x.twin();
+        due(what, with.call(call), why);
+        compare(what, Asked.all(with), Asked.all(without), why);
+        refusedBehindSearch(x, what, call, why);
+        due(what, x.call(call), why);
+    }
+
+    /** The same, if BEST and the BEST STEP were asked already ahead of it. */
+    private static void refusedBehindSearch(Run x, String what, Run.Call call, int why) {
+        Run without = x.twin();
+        Run with = x.twin();
+        without.best(0);
+        without.next(0);
+        with.best(0);
+        with.next(0);
+        due(what + ", behind a search", with.call(call), why);
+        compare(what + ", behind a search", Asked.all(with), Asked.all(without), why);
+    }
+
+    private static void compare(String what, Map<String, Long> got, Map<String, Long> want, int why) {
+        String counter = "told(" + counterOf(why) + ")";
+        due(what + ", how many answers", got.size(), want.size());
+        for (Map.Entry<String, Long> entry : want.entrySet()) {
+            String asked = entry.getKey();
+            long more = asked.equals(counter) ? 1 : asked.equals("digest()") ? oneRefusedMore(want, why) : 0;
+            due(what + ", then " + asked, got.getOrDefault(asked, Long.MIN_VALUE), entry.getValue() + more);
         }
     }
 
-    /** All that can be asked without being refused: told, HOUSES, LOADS. */
-    private static int[] state(PhaseLoads x) {
-        int[] all = new int[8 + 9 * 5 + 18 + 4];
-        int n = 0;
-        for (int what = 0; what < 8; what++) {
-            all[n++] = x.told(what);
+    private static int counterOf(int why) {
+        return why == PhaseLoads.BAD ? 0 : why == PhaseLoads.NO ? 1 : 2;
+    }
+
+    /** By how much digest is more: each value behind the counter makes it 31 times as much. */
+    private static long oneRefusedMore(Map<String, Long> answers, int why) {
+        long behind = 7 - counterOf(why) + 3 * answers.get("told(3)") + 6 + 2 * answers.get("told(4)") + 1;
+        return power31(behind);
+    }
+
+    static long power31(long n) {
+        long power = 1;
+        for (long i = 0; i < n; i++) {
+            power *= 31;
         }
-        for (int h = 0; h < x.told(3); h++) {
-            for (int what = 0; what < 5; what++) {
-                all[n++] = x.of(h, what);
-            }
-        }
-        for (int p = 0; p < 3; p++) {
-            for (int t = 0; t < 6; t++) {
-                all[n++] = x.load(p, t);
-            }
-        }
-        all[n++] = x.grief();
-        all[n++] = x.many();
-        all[n++] = x.good(0);
-        all[n] = x.good(1);
-        return all;
+        return power;
     }
 
     static void end() {
@@ -61,9 +80,5 @@ final class Check {
         if (wrong != 0 || right == 0) {
             System.exit(1);
         }
-    }
-
-    interface Call {
-        int on(PhaseLoads x);
     }
 }

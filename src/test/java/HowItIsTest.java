@@ -15,7 +15,7 @@ public final class HowItIsTest {
     }
 
     private static void load() {
-        PhaseLoads x = new PhaseLoads();
+        Run x = new Run();
         for (int p = 0; p < 3; p++) {
             Check.due("12: no houses", x.load(p, 5), 0);
         }
@@ -38,7 +38,7 @@ public final class HowItIsTest {
     }
 
     private static void neutral() {
-        PhaseLoads x = new PhaseLoads();
+        Run x = new Run();
         Check.due("13: no houses", x.neutral(0), 0);
         x.house(0, 2, 0);
         x.house(0, 3, 1);
@@ -58,7 +58,7 @@ public final class HowItIsTest {
     }
 
     private static void grief() {
-        PhaseLoads x = new PhaseLoads();
+        Run x = new Run();
         x.house(1, 3, 0);
         x.house(2, 2, 1);
         // by HOURS: (3, 2), (3, 2), (6, 0), (6, 0), (3, 2), (3, 2)
@@ -84,7 +84,7 @@ public final class HowItIsTest {
     }
 
     private static void safe() {
-        PhaseLoads x = new PhaseLoads();
+        Run x = new Run();
         Check.due("15: no houses are safe", x.good(0), 1);
         x.house(0, 10, 0);
         x.house(5, 12, 1);
@@ -106,7 +106,7 @@ public final class HowItIsTest {
     }
 
     private static void keeps() {
-        PhaseLoads x = new PhaseLoads();
+        Run x = new Run();
         Check.due("15: no houses keep", x.good(1), 1);
         x.house(0, 1, 0);
         x.house(0, 1, 0);
@@ -131,7 +131,7 @@ public final class HowItIsTest {
     }
 
     private static void worstHour() {
-        PhaseLoads x = new PhaseLoads();
+        Run x = new Run();
         Check.due("16: all 0: the earliest", x.worst(0), 0);
         x.house(4, 1, 0);
         Check.due("16: 1 and 4 alike: the earliest", x.worst(0), 1);
@@ -147,7 +147,7 @@ public final class HowItIsTest {
     }
 
     private static void worstLoad() {
-        PhaseLoads x = new PhaseLoads();
+        Run x = new Run();
         Check.due("16: no load", x.worst(1), 0);
         x.house(0, 4, 2);
         Check.due("16: the only one", x.worst(1), 4);

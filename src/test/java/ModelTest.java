@@ -1,9 +1,12 @@
 import java.util.Random;
 
-/** Runs of 512 calls, drawn from fixed seeds, on PhaseLoads and on SlowStreet: every answer has to be the same. */
+/**
+ * Runs of 512 calls, drawn from fixed seeds, on PhaseLoads and on SlowStreet: every answer has to be the same. Every
+ * second call is digest.
+ */
 public final class ModelTest {
-    private static final int RUNS = 400;
-    private static final int CALLS = 512;
+    private static final int RUNS = 800;
+    private static final int CALLS = 256;
     private static final String[] NAMES = {"house", "sets", "weight", "fuse", "tie", "loosens", "anew", "draw", "of",
         "takes", "load", "neutral", "grief", "good", "worst", "change", "swap", "step", "down", "lay", "undo", "best",
         "phase", "by", "fewest", "many", "next", "told", "digest"};

@@ -5,10 +5,13 @@ public final class StreetTest {
 
     public static void main(String[] args) {
         newObject();
+        everyCallOnANewObject();
         house();
+        theLastHouse();
         houseIsRefused();
         sets();
         setsIsRefused();
+        setsOfFixedAndTied();
         weight();
         fuse();
         tie();
@@ -24,7 +27,7 @@ public final class StreetTest {
     }
 
     private static void newObject() {
-        PhaseLoads x = new PhaseLoads();
+        Run x = new Run();
         int[] told = {0, 0, 0, 0, 0, 400, 0, 0};
         long digest = 2011;
         for (int what = 0; what < 8; what++) {
@@ -43,11 +46,36 @@ public final class StreetTest {
         }
         Check.due("1: new fuse", x.fuse(400), 400);
         x.house(0, 1, 0);
-        Check.due("1: objects are apart", new PhaseLoads().told(3), 0);
+        Check.due("1: objects are apart", new Run().told(3), 0);
+    }
+
+    private static void everyCallOnANewObject() {
+        Run.Call[] calls = {
+            y -> y.house(0, 1, 0), y -> y.sets(0, 0, 0), y -> y.weight(5, 9), y -> y.fuse(1), y -> y.tie(0, 1),
+            y -> y.loosens(), y -> y.anew(), y -> y.draw(0, 0), y -> y.draw(0, 9), y -> y.of(0, 0),
+            y -> y.takes(0, 0), y -> y.load(2, 5), y -> y.neutral(5), y -> y.grief(), y -> y.good(0),
+            y -> y.good(1), y -> y.worst(0), y -> y.worst(1), y -> y.change(0, 0), y -> y.swap(0, 1),
+            y -> y.step(), y -> y.down(), y -> y.lay(), y -> y.undo(), y -> y.best(0),
+            y -> y.best(1), y -> y.best(2), y -> y.phase(0), y -> y.by(0), y -> y.by(9),
+            y -> y.fewest(0), y -> y.many(), y -> y.next(0), y -> y.told(5)};
+        int[] answers = {
+            0, BAD, 1, 400, BAD,
+            0, 0, 0, 9, BAD,
+            BAD, 0, 0, 0, 1,
+            1, 0, 0, BAD, BAD,
+            NO, 0, 0, NO, 0,
+            0, 1, BAD, 0, 0,
+            0, 1, NO, 400};
+        for (int i = 0; i < calls.length; i++) {
+            Check.due("1: call " + i + " on a new object", new Run().call(calls[i]), answers[i]);
+            if (answers[i] == BAD || answers[i] == NO) {
+                Check.refused(new Run(), "1: call " + i + " on a new object", calls[i], answers[i]);
+            }
+        }
     }
 
     private static void house() {
-        PhaseLoads x = new PhaseLoads();
+        Run x = new Run();
         for (int h = 0; h < 9; h++) {
             Check.due("2: house", x.house(h % 6, h == 0 ? 1 : h == 8 ? 20 : h + 5, h % 3), h);
             Check.due("2: houses", x.told(3), h + 1);
@@ -61,8 +89,46 @@ public final class StreetTest {
         }
     }
 
+    /** HOUSE 8 is one as all others: of nine like ones on PHASE 0 it is asked by every call. */
+    private static void theLastHouse() {
+        Run x = new Run();
+        for (int h = 0; h < 9; h++) {
+            x.house(0, 2, 0);
+        }
+        Check.due("3: SORT", x.sets(8, 0, 5), 0);
+        Check.due("3: SIZE", x.sets(8, 1, 20), 2);
+        Check.due("3: FIXED", x.sets(8, 2, 1), 0);
+        Check.due("29: FIXED bits", x.told(7), 256);
+        Check.due("3: not FIXED", x.sets(8, 2, 0), 1);
+        Check.due("11: takes", x.takes(8, 5), -20);
+        Check.due("6: tie", x.tie(8, 7), 1);
+        Check.due("10: the least TIED", x.of(8, 4), 7);
+        Check.due("7: loosens", x.loosens(), 1);
+        Check.due("17: change", x.change(8, 2), 0);
+        Check.due("12: load", x.load(2, 5), -20);
+        Check.due("10: PHASE", x.of(8, 2), 2);
+        x.swap(8, 0);
+        Check.due("18: PHASE behind swap", x.of(8, 2), 0);
+        Check.due("18: PHASE of the other", x.of(0, 2), 2);
+        Check.due("12: load behind swap", x.load(0, 5), 7 * 2 - 20);
+        x.anew();
+        for (int h = 0; h < 9; h++) {
+            x.house(0, 2, h / 3);
+        }
+        x.change(8, 1);
+        // HOUSES 3, 4, 5 or 8 could go to PHASE 2; that HOUSE 3, 4 and 5 stay on 1 is the first of these
+        Check.due("24: phase", x.phase(8), 2);
+        Check.due("24: the others stay", x.phase(3) + x.phase(4) + x.phase(5), 3);
+        Check.due("28: of like STEPS the first", x.next(2), 3);
+        x.sets(3, 2, 1);
+        x.sets(4, 2, 1);
+        x.sets(5, 2, 1);
+        Check.due("28: the others are FIXED", x.next(2), 8);
+        Check.due("28: its PHASE", x.next(3), 2);
+    }
+
     private static void houseIsRefused() {
-        PhaseLoads x = new PhaseLoads();
+        Run x = new Run();
         int[][] bad = {{-1, 1, 0}, {6, 1, 0}, {0, 0, 0}, {0, 21, 0}, {0, 1, -1}, {0, 1, 3}, {FAR, 1, 0}, {LOW, 1, 0},
             {0, FAR, 0}, {0, LOW, 0}, {0, 1, FAR}, {0, 1, LOW}};
         for (int[] b : bad) {
@@ -72,11 +138,11 @@ public final class StreetTest {
         x.change(0, 1);
         Check.refused(x, "2: a tenth house", y -> y.house(0, 1, 0), FULL);
         Check.refused(x, "2: bad ahead of full", y -> y.house(0, 0, 0), BAD);
-        Check.due("2: full three times", x.told(2), 1);
+        Check.due("2: full once", x.told(2), 1);
     }
 
     private static void sets() {
-        PhaseLoads x = new PhaseLoads();
+        Run x = new Run();
         x.house(0, 5, 0);
         x.house(1, 6, 1);
         Check.due("3: sort was", x.sets(1, 0, 4), 1);
@@ -97,8 +163,27 @@ public final class StreetTest {
         Check.due("3: neutral follows", x.neutral(2), 25 + 1 + 5);
     }
 
+    /** FIXED, TIED ones may not be laid elsewhere; what they are can be set all the same. */
+    private static void setsOfFixedAndTied() {
+        Run x = new Run();
+        x.house(0, 5, 0);
+        x.house(1, 6, 1);
+        x.sets(0, 2, 1);
+        Check.due("6: a FIXED one, of another PHASE", x.tie(0, 1), 1);
+        Check.due("3: SORT of a FIXED one", x.sets(0, 0, 3), 0);
+        Check.due("3: SIZE of a FIXED one", x.sets(0, 1, 9), 5);
+        Check.due("3: SORT of a TIED one", x.sets(1, 0, 4), 1);
+        Check.due("3: SIZE of a TIED one", x.sets(1, 1, 1), 6);
+        Check.due("3: FIXED, a TIED one", x.sets(1, 2, 1), 0);
+        Check.due("3: its PHASE stays", x.of(0, 2) * 10 + x.of(1, 2), 1);
+        Check.due("3: it is TIED yet", x.of(1, 4), 0);
+        Check.due("3: as it is", x.sets(0, 0, 3) * 100 + x.sets(0, 1, 9) * 10 + x.sets(0, 2, 1), 391);
+        Check.due("3: a SHOP of 9", x.load(0, 2), 18);
+        Check.due("3: a STOVE of 1", x.load(1, 1), 3);
+    }
+
     private static void setsIsRefused() {
-        PhaseLoads x = new PhaseLoads();
+        Run x = new Run();
         Check.refused(x, "3: no house", y -> y.sets(0, 0, 0), BAD);
         x.house(0, 5, 0);
         x.house(1, 6, 1);
@@ -111,7 +196,7 @@ public final class StreetTest {
     }
 
     private static void weight() {
-        PhaseLoads x = new PhaseLoads();
+        Run x = new Run();
         x.house(4, 2, 0);
         // a STOVE of 2 takes 6 in HOURS 1 and 4
         Check.due("4: grief at first", x.grief(), 72);
@@ -130,7 +215,7 @@ public final class StreetTest {
     }
 
     private static void fuse() {
-        PhaseLoads x = new PhaseLoads();
+        Run x = new Run();
         Check.due("5: was", x.fuse(1), 400);
         Check.due("5: is", x.told(5), 1);
         Check.due("5: was, then", x.fuse(400), 1);
@@ -142,7 +227,7 @@ public final class StreetTest {
     }
 
     private static void tie() {
-        PhaseLoads x = new PhaseLoads();
+        Run x = new Run();
         x.draw(3, 9);
         int[] phases = new int[9];
         for (int h = 0; h < 9; h++) {
@@ -161,7 +246,7 @@ public final class StreetTest {
     }
 
     private static void tieIsRefused() {
-        PhaseLoads x = new PhaseLoads();
+        Run x = new Run();
         Check.refused(x, "6: no houses", y -> y.tie(0, 1), BAD);
         x.draw(3, 9);
         x.tie(0, 1);
@@ -184,7 +269,7 @@ public final class StreetTest {
     }
 
     private static void loosens() {
-        PhaseLoads x = new PhaseLoads();
+        Run x = new Run();
         Check.due("7: none", x.loosens(), 0);
         x.draw(3, 5);
         x.tie(4, 3);
@@ -200,7 +285,7 @@ public final class StreetTest {
     }
 
     private static void anew() {
-        PhaseLoads x = new PhaseLoads();
+        Run x = new Run();
         Check.due("8: none", x.anew(), 0);
         x.draw(3, 5);
         x.tie(0, 1);
@@ -227,28 +312,31 @@ public final class StreetTest {
     }
 
     private static void draw() {
-        int[] seeds = {0, 1, 7, 12345, 999999};
-        PhaseLoads x = new PhaseLoads();
-        x.weight(2, 5);
-        x.fuse(333);
-        for (int seed : seeds) {
+        for (int seed : new int[] {0, 1, 7, 12345, 999998, 999999}) {
             for (int n = 0; n <= 9; n++) {
-                x.house(0, 1, 0);
-                x.house(0, 1, 0);
-                x.sets(0, 2, 1);
-                x.tie(0, 1);
-                Check.due("9: draw", x.draw(seed, n), n);
-                Check.due("9: houses", x.told(3), n);
-                Check.due("9: no ties", x.told(4), 0);
-                Check.due("9: none fixed", x.told(7), 0);
-                compareDrawn(x, seed, n);
+                drawInPlaceOfTwo(seed, n);
             }
         }
+    }
+
+    private static void drawInPlaceOfTwo(int seed, int n) {
+        Run x = new Run();
+        x.weight(2, 5);
+        x.fuse(333);
+        x.house(0, 1, 0);
+        x.house(0, 1, 0);
+        x.sets(0, 2, 1);
+        x.tie(0, 1);
+        Check.due("9: draw", x.draw(seed, n), n);
+        Check.due("9: houses", x.told(3), n);
+        Check.due("9: no ties", x.told(4), 0);
+        Check.due("9: none fixed", x.told(7), 0);
+        compareDrawn(x, seed, n);
         Check.due("9: weight stays", x.weight(2, 1), 5);
         Check.due("9: fuse stays", x.fuse(400), 333);
     }
 
-    private static void compareDrawn(PhaseLoads x, int seed, int n) {
+    private static void compareDrawn(Run x, int seed, int n) {
         java.math.BigInteger big = java.math.BigInteger.valueOf(seed);
         for (int h = 0; h < n; h++) {
             big = big.multiply(java.math.BigInteger.valueOf(1103515245)).add(java.math.BigInteger.valueOf(12345));
@@ -262,7 +350,7 @@ public final class StreetTest {
     }
 
     private static void drawIsRefused() {
-        PhaseLoads x = new PhaseLoads();
+        Run x = new Run();
         x.draw(4, 4);
         x.tie(0, 1);
         x.change(2, 1);
@@ -273,7 +361,7 @@ public final class StreetTest {
     }
 
     private static void of() {
-        PhaseLoads x = new PhaseLoads();
+        Run x = new Run();
         Check.refused(x, "10: no house", y -> y.of(0, 0), BAD);
         x.house(3, 11, 2);
         x.house(1, 2, 0);
@@ -303,7 +391,7 @@ public final class StreetTest {
             {0, 0, -1, -1, -1, -1},
         };
         for (int size : new int[] {1, 7, 20}) {
-            PhaseLoads x = new PhaseLoads();
+            Run x = new Run();
             for (int sort = 0; sort < 6; sort++) {
                 x.house(sort, size, sort % 3);
                 for (int t = 0; t < 6; t++) {
@@ -318,17 +406,17 @@ public final class StreetTest {
     }
 
     private static void whatIsToldLeavesNoneToUndo() {
-        Check.Call[] told = {
+        Run.Call[] told = {
             y -> y.house(0, 1, 0), y -> y.sets(0, 0, 1), y -> y.sets(0, 1, 3), y -> y.sets(0, 2, 0),
             y -> y.weight(0, 1), y -> y.fuse(400), y -> y.tie(0, 1), y -> y.loosens(), y -> y.anew(),
             y -> y.draw(1, 3)};
         for (int i = 0; i < told.length; i++) {
-            PhaseLoads x = new PhaseLoads();
+            Run x = new Run();
             x.draw(2, 4);
             x.change(0, 1);
             x.change(0, 2);
             Check.due("22: two to undo", x.told(6), 2);
-            told[i].on(x);
+            x.call(told[i]);
             Check.due("22: none to undo behind call " + i, x.told(6), 0);
             Check.refused(x, "22: undo behind call " + i, y -> y.undo(), NO);
         }
