@@ -16,11 +16,13 @@ public final class TermsTest {
         asMuchAsTheFuseIsSafe();
         asLittleAsLessTheFuseIsSafe();
         anyHourOfAnyPhaseCanBlowTheFuse();
+        whatGivesHelpsItsOwnPhaseAlone();
         tiedOnesOfTiedOnes();
         layingsThatAreLookedFor();
         leastGriefIsAheadOfFewestChanges();
         fewestChangesAreAheadOfTheFirst();
         theFirstOfLikeOnes();
+        allLayingsAreAlike();
         bestByChanges();
         changeIsToAnotherPhase();
         swapIsOfUnlikePhases();
@@ -29,6 +31,7 @@ public final class TermsTest {
         likeSteps();
         downEndsWhereGriefIsNotLess();
         eightCanBeUndone();
+        eightOfAnyKindCanBeUndone();
         undoneOnesMakeRoom();
         eachCallToldDIsOne();
         onlyWhatIsToldDCanBeUndone();
@@ -305,6 +308,29 @@ public final class TermsTest {
         Check.due("10 in HOUR 0 by 10", x.good(0), 1);
     }
 
+    /** 16 of two DAYS in HOURS 2, 3 is too much by a FUSE of 15, but for a SUN of 1 on the same PHASE. */
+    private static void whatGivesHelpsItsOwnPhaseAlone() {
+        Run x = new Run();
+        x.house(DAY, 5, 0);
+        x.house(DAY, 3, 0);
+        x.house(SUN, 1, 1);
+        x.fuse(15);
+        Check.due("16 beside a SUN", x.good(0), 0);
+        Check.due("both DAYS together, the SUN elsewhere: 6 of 27", x.many(), 21);
+        x.change(2, 0);
+        Check.due("16 with a SUN", x.good(0), 1);
+        // and less 11 of two SUNS in HOURS 2 to 5 by a FUSE of 10, but for a STEADY one of 1
+        Run below = new Run();
+        below.house(SUN, 5, 2);
+        below.house(SUN, 6, 2);
+        below.house(STEADY, 1, 0);
+        below.fuse(10);
+        Check.due("-11 beside a STEADY one", below.good(0), 0);
+        Check.due("both SUNS together, the STEADY one elsewhere: 6 of 27", below.many(), 21);
+        below.change(2, 2);
+        Check.due("-11 with a STEADY one", below.good(0), 1);
+    }
+
     private static void tiedOnesOfTiedOnes() {
         Run x = new Run();
         for (int h = 0; h < 9; h++) {
@@ -411,6 +437,27 @@ public final class TermsTest {
         for (int h = 0; h < 9; h++) {
             Check.due("nine: HOUSE " + h, nine.phase(h), h / 3);
         }
+    }
+
+    /** No HOUR weighs: nine HOUSES' layings all have no GRIEF, and the one of now has the fewest changes. */
+    private static void allLayingsAreAlike() {
+        Run x = new Run();
+        x.draw(99, 9);
+        for (int t = 0; t < 6; t++) {
+            x.weight(t, 0);
+        }
+        Check.due("no GRIEF", x.best(0), 0);
+        Check.due("no changes", x.best(1), 0);
+        Check.due("all are alike", x.best(2), 19683);
+        Check.due("all are looked for", x.many(), 19683);
+        for (int h = 0; h < 9; h++) {
+            Check.due("as it lies", x.phase(h), x.of(h, 2));
+        }
+        Check.due("by none", x.by(0), 0);
+        Check.due("for none", x.fewest(0), 0);
+        Check.due("no STEP lessens it", x.step(), NO);
+        nextIs("the first CHANGE of all", x, 0, 0, 0, x.of(0, 2) == 0 ? 1 : 0);
+        Check.due("laid as it lies", x.lay(), 0);
     }
 
     /** 20 is FIXED on PHASE 0 with eight of 5: all eight have to go. */
@@ -583,6 +630,28 @@ public final class TermsTest {
             Check.due("the PHASE stays", x.of(0, 2), (made - can) % 3);
             Check.due("none can be", x.told(6), 0);
         }
+    }
+
+    private static void eightOfAnyKindCanBeUndone() {
+        Run.Call[] calls = {
+            y -> y.lay(), y -> y.swap(0, 4), y -> y.change(3, 1), y -> y.step(), y -> y.swap(0, 1), y -> y.lay(),
+            y -> y.change(1, 1), y -> y.change(1, 2), y -> y.change(0, 2), y -> y.down(), y -> y.swap(2, 3),
+            y -> y.lay(), y -> y.change(2, 2)};
+        Run x = ChangesTest.fiveSteady();
+        int[][] ahead = new int[calls.length][5];
+        for (int i = 0; i < calls.length; i++) {
+            for (int h = 0; h < 5; h++) {
+                ahead[i][h] = x.of(h, 2);
+            }
+            Check.holds("call " + i + " is done", x.call(calls[i]) >= 0);
+            Check.due("how many can be, call " + i, x.told(6), Math.min(i + 1, 8));
+        }
+        for (int left = 7; left >= 0; left--) {
+            Check.due("how many can be yet", x.undo(), left);
+            ChangesTest.phasesAre("PHASES ahead", x, ahead[calls.length - 8 + left]);
+        }
+        Check.due("older ones are lost", x.undo(), NO);
+        ChangesTest.phasesAre("nothing is undone", x, ahead[calls.length - 8]);
     }
 
     /** Of the room for eight, what is undone is free for others; what was lost does not come back. */
